@@ -11,14 +11,14 @@ public final class FaceTest {
     private static final Set<String> FACE = Set.of(
         "field NONE int static final",
         "new []",
-        "void poke[int, int]",
-        "void picture[int, int, int, int, int, int]",
-        "void manner[int, int, int, int]",
-        "void border[int, int, int, int, int]",
-        "int texel[int, int, int, int, int]",
-        "int texels[int]",
-        "int read[int, int, int, int]",
-        "int also[int]");
+        "void poke[int, int] IndexOutOfBoundsException",
+        "void picture[int, int, int, int, int, int] NoSuchElementException IllegalArgumentException",
+        "void manner[int, int, int, int] NoSuchElementException IllegalArgumentException",
+        "void border[int, int, int, int, int] NoSuchElementException",
+        "int texel[int, int, int, int, int] NoSuchElementException IndexOutOfBoundsException",
+        "int texels[int] NoSuchElementException",
+        "int read[int, int, int, int] NoSuchElementException",
+        "int also[int] IndexOutOfBoundsException");
 
     private static final Set<String> PUBLIC_NAMES =
         Set.of("poke", "picture", "manner", "border", "texel", "texels", "read", "also");
@@ -40,7 +40,8 @@ public final class FaceTest {
         }
         for (Method m : TextureUnits.class.getDeclaredMethods()) {
             if (!Modifier.isPrivate(m.getModifiers())) {
-                found.add(m.getReturnType() + " " + m.getName() + types(m.getParameterTypes()));
+                found.add(m.getReturnType() + " " + m.getName() + types(m.getParameterTypes())
+                    + thrown(m.getExceptionTypes()));
             } else if (PUBLIC_NAMES.contains(m.getName())) {
                 Check.say("a private method bears the name " + m.getName());
             }
@@ -58,5 +59,13 @@ public final class FaceTest {
 
     private static String types(Class<?>[] types) {
         return Arrays.toString(types);
+    }
+
+    private static String thrown(Class<?>[] types) {
+        StringBuilder names = new StringBuilder();
+        for (Class<?> type : types) {
+            names.append(' ').append(type.getSimpleName());
+        }
+        return names.toString();
     }
 }
